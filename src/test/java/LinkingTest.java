@@ -15,9 +15,13 @@ public final class LinkingTest {
         promise9Place();
         promise9FirstBankWithRoom();
         promise9GreatestOfCallers();
+        promise9LongChains();
+        promise9LinkedAgain();
         promise10Image();
         promise10Jumps();
+        promise10GreatestImage();
         promise11Count();
+        promise11OnlyRoutine();
         promise12Leads();
         Due.finish();
     }
@@ -233,6 +237,90 @@ public final class LinkingTest {
         Due.due("cells", x.count(6), 8);
     }
 
+    /** Chains of 30 routines, up and down their numbers: BASE and DEPTH come through all of them. */
+    private static void promise9LongChains() {
+        for (int down = 0; down < 2; down++) {
+            BankLinker x = new BankLinker();
+            x.module(0);
+            x.limit(Samples.COMMON, 250);
+            x.limit(Samples.STACK, 60);
+            x.limit(Samples.CELLS, 60);
+            for (int r = 0; r < 30; r++) x.routine(0, r % 3 + 1);
+            for (int r = 1; r < 30; r++) x.op(down == 1 ? r : r - 1, Samples.CALL, down == 1 ? r - 1 : r);
+            Due.due("link()", x.link(), 1);
+            int base = 0;
+            for (int k = 0; k < 30; k++) {
+                int r = down == 1 ? 29 - k : k;
+                Due.due("chain: base of " + r, x.place(r, 3), base);
+                Due.due("chain: depth of " + r, x.place(r, 4), 29 - k);
+                base += r % 3 + 1;
+            }
+            Due.due("chain: cells", x.count(6), 60);
+        }
+    }
+
+    /** What the image before had told is not left in the next one. */
+    private static void promise9LinkedAgain() {
+        BankLinker x = Samples.chain();
+        Due.due("link()", x.link(), 1);
+        x.drop(3);
+        x.drop(3);
+        for (int i = 0; i < 3; i++) x.drop(2);
+        Due.due("link()", x.link(), 1);
+        int[][] due = {
+            {0, 256, 21, 1, 1, 12},
+            {NONE, 0, NONE, 0, 4, 17},
+            {0, 271, NONE, 3, 0, 1},
+            {NONE, 17, NONE, 0, 0, 4},
+            {0, 268, NONE, 0, 0, 3},
+        };
+        for (int r = 0; r < due.length; r++) {
+            for (int what = 0; what < 6; what++) {
+                Due.due("again: place(" + r + ", " + what + ")", x.place(r, what), due[r][what]);
+            }
+        }
+        int[] counts = {3, 5, 12, 29, 1, 1, 3, 1};
+        for (int what = 0; what < 8; what++) Due.due("again: count(" + what + ")", x.count(what), counts[what]);
+        Samples.dueBytes("again", x, 1);
+    }
+
+    /** 8 banks and COMMON, each with 250 bytes: 3 routines of 81, 81 and 88 bytes. */
+    private static BankLinker greatest() {
+        BankLinker x = new BankLinker();
+        x.limit(Samples.BANKS, 8);
+        x.limit(Samples.SIZE, 250);
+        x.limit(Samples.COMMON, 250);
+        for (int m = 0; m < 9; m++) {
+            x.module(m == 0 ? 0 : 1);
+            for (int k = 0; k < 3; k++) {
+                int r = x.routine(m, 0);
+                for (int i = 0; i < 40; i++) {
+                    if (k == 2 && i < 7) x.op(r, Samples.CALL, r - 1);
+                    else x.op(r, Samples.SET, m);
+                }
+            }
+        }
+        return x;
+    }
+
+    private static void promise10GreatestImage() {
+        BankLinker x = greatest();
+        Due.due("link()", x.link(), 1);
+        for (int b = -1; b < 8; b++) {
+            Due.due("byte 0", x.image(b, 0), 0);
+            Due.due("byte 1", x.image(b, 1), b + 1);
+            Due.due("byte 249", x.image(b, 249), 8);
+            Due.due("byte 250", x.image(b, 250), NONE);
+        }
+        Due.due("image(8, 0)", x.image(8, 0), BAD);
+        Due.due("count(3)", x.count(3), 250);
+        Due.due("count(5)", x.count(5), 8);
+        x.routine(0, 0);
+        Samples.dueFault("251 bytes of COMMON", x, 5, NONE, NONE);
+        x.routine(8, 0);
+        Samples.dueFault("251 bytes of a bank", x, 3, 8, NONE);
+    }
+
     private static void promise10Image() {
         BankLinker x = Samples.chain();
         Due.due("image(4, 0) without an image", x.image(4, 0), BAD);
@@ -307,6 +395,23 @@ public final class LinkingTest {
         Due.due("thunks with one bank", x.count(4), 2);
         Due.due("bytes of COMMON with one bank", x.count(3), 42);
         Due.due("one bank", x.count(5), 1);
+    }
+
+    /** Counts of one routine alone, and of a far call that is its first op. */
+    private static void promise11OnlyRoutine() {
+        BankLinker x = Samples.single(1, 0);
+        Due.due("link()", x.link(), 1);
+        int[] due = {1, 1, 0, 0, 0, 1, 0, 0};
+        for (int what = 0; what < 8; what++) Due.due("alone: count(" + what + ")", x.count(what), due[what]);
+        x.module(0);
+        x.routine(1, 7);
+        x.op(1, Samples.CALL, 0);
+        Due.due("link()", x.link(), 1);
+        int[] dueNow = {2, 2, 1, 15, 1, 1, 7, 1};
+        for (int what = 0; what < 8; what++) Due.due("two: count(" + what + ")", x.count(what), dueNow[what]);
+        x = Samples.single(1, 4);
+        Due.due("link()", x.link(), 1);
+        Due.due("cells of routine 0", x.count(6), 4);
     }
 
     private static void promise12Leads() {

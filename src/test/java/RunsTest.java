@@ -8,6 +8,7 @@ public final class RunsTest {
         promise13Refusals();
         promise13EachRoutine();
         promise13LocalsBegin();
+        promise13GreatestRun();
         promise14Flat();
         promise14Astray();
         promise14LocalsOfItsOwn();
@@ -98,6 +99,38 @@ public final class RunsTest {
         Samples.dueOut("cells laid over", x, 0, 0, 0);
         Due.due("flat", x.flat(0, 5, 99), 1);
         Samples.dueOut("cells laid over", x, 1, 0, 0);
+    }
+
+    /** 20 far calls within one another, with 60 on the stack, and 64 cells, each with its number. */
+    private static void promise13GreatestRun() {
+        BankLinker x = new BankLinker();
+        x.module(1);
+        x.module(1);
+        x.limit(Samples.STACK, 60);
+        x.limit(Samples.CELLS, 64);
+        x.limit(Samples.COMMON, 160);
+        x.limit(Samples.SIZE, 151);
+        for (int r = 0; r < 21; r++) x.routine(r % 2, r == 20 ? 4 : 3);
+        for (int r = 0; r < 21; r++) {
+            int last = r == 20 ? 3 : 2;
+            Samples.ops(x, r, Samples.ADD, 1, Samples.STORE, last);
+            if (r < 20) x.op(r, Samples.CALL, r + 1);
+            Samples.ops(x, r, Samples.LOAD, last, Samples.TELL, 0);
+        }
+        Due.due("link()", x.link(), 1);
+        Due.due("depth", x.place(0, 4), 60);
+        Due.due("cells", x.count(6), 64);
+        Due.due("far calls", x.count(7), 20);
+        Due.due("run(0, 250, 3000)", x.run(0, 250, 3000), 1);
+        Samples.dueTold("greatest", x, 0, 20 * (4 + 3 + 2 + 3) + 6, 251, 21, 60, 40);
+        Due.due("flat(0, 250, 3000)", x.flat(0, 250, 3000), 1);
+        Samples.dueTold("greatest", x, 1, 21 * 6 - 1, 251, 21, 20, 0);
+        for (int i = 0; i < 21; i++) {
+            Due.due("number " + i, x.out(0, i), (271 - i) % 256);
+            Due.due("number " + i, x.out(1, i), (271 - i) % 256);
+        }
+        x.limit(Samples.STACK, 59);
+        Samples.dueFault("59 on the stack", x, 7, 0, NONE);
     }
 
     private static void promise14Flat() {
