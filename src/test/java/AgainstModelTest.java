@@ -2,19 +2,19 @@ import java.util.Random;
 
 /** Random programs and calls: each answer of BankLinker is compared with that of Model. */
 public final class AgainstModelTest {
-    private static final int OBJECTS = 1000;
-    private static final int CALLS = 512;
+    private static final int OBJECTS = 12000;
+    /** No action below makes more calls than this. */
+    private static final int MOST_CALLS_OF_AN_ACTION = 100;
     /** CALL and TELL more often than what ends a routine or goes around in it. */
     private static final int[] MANY_OF_EACH = {0, 0, 1, 1, 1, 2, 2, 2, 3, 3, 4, 4, 5, 5, 5, 5, 6, 6, 7, 8};
 
     private final Random random;
     private final int seed;
-    private final BankLinker x = new BankLinker();
+    private final Counted x = new Counted();
     private final Model model = new Model();
     /** Greater: more routines, more ops, more calls that are refused. */
     private final int size;
     private final boolean loops;
-    private int done = 0;
 
     private static final int[] faultsSeen = new int[8];
     private static int runsDone = 0, runsSpent = 0, flatsAstray = 0, farRuns = 0, agreed = 0;
@@ -48,7 +48,7 @@ public final class AgainstModelTest {
         int ops = random.nextInt(60 * size);
         for (int i = 0; i < ops; i++) randomOp();
         link();
-        while (done < CALLS) {
+        while (x.callsLeft() >= MOST_CALLS_OF_AN_ACTION) {
             switch (random.nextInt(14)) {
                 case 0: module(random.nextInt(4) - 1); break;
                 case 1: routine(random.nextInt(14) - 1, random.nextInt(12) - 1); break;
@@ -63,7 +63,6 @@ public final class AgainstModelTest {
                 case 12: flat(someRoutine(), random.nextInt(256), 1 + random.nextInt(300)); break;
                 default: lookAtRuns(); break;
             }
-            done++;
         }
     }
 
@@ -127,31 +126,35 @@ public final class AgainstModelTest {
         if (random.nextInt(8) == 0) op(p, q, s);
         fault(p);
         place(p, q);
-        same("image", x.image(p, q), model.image(p, q), p, q, 0);
+        image(p, q);
         same("count", x.count(p), model.count(p), p, 0, 0);
         leads(p, q);
         run(p, q, s);
         flat(p, q, s);
-        same("out", x.out(p, q), model.out(p, q), p, q, 0);
+        out(p, q);
         same("told", x.told(p, q), model.told(p, q), p, q, 0);
     }
 
     private void look() {
         for (int what = 0; what < 3; what++) fault(what);
         for (int what = 0; what < 8; what++) same("count", x.count(what), model.count(what), what, 0, 0);
-        for (int r = 0; r < model.routines.size(); r++) {
-            for (int what = 0; what < 6; what++) place(r, what);
-            leads(r, someRoutine());
-        }
+        for (int k = 0; k < 20; k++) place(someRoutine(), random.nextInt(6));
+        for (int k = 0; k < 5; k++) leads(someRoutine(), someRoutine());
         for (int b = -1; b < 8; b++) {
-            for (int i = 0; i < 252; i++) same("image", x.image(b, i), model.image(b, i), b, i, 0);
+            int bytes = 0;
+            while (model.image(b, bytes) >= 0) bytes++;
+            image(b, bytes);
+            if (bytes > 0) image(b, bytes - 1);
+            for (int k = 0; k < 5 && bytes > 0; k++) image(b, random.nextInt(bytes));
         }
     }
 
     private void lookAtRuns() {
         for (int which = 0; which < 2; which++) {
             for (int what = 0; what < 5; what++) same("told", x.told(which, what), model.told(which, what), which, what, 0);
-            for (int i = 0; i < 102; i++) same("out", x.out(which, i), model.out(which, i), which, i, 0);
+            int kept = Math.min(100, model.told(which, 2));
+            out(which, kept);
+            for (int k = 0; k < 5 && kept > 0; k++) out(which, random.nextInt(kept));
         }
     }
 
@@ -171,7 +174,11 @@ public final class AgainstModelTest {
         same("flat is done, too", cameFlat, 1, r, a, 0);
         same("A", x.told(0, 1), x.told(1, 1), r, a, 0);
         same("how many", x.told(0, 2), x.told(1, 2), r, a, 0);
-        for (int i = 0; i < 100; i++) same("number", x.out(0, i), x.out(1, i), r, a, i);
+        int kept = Math.min(100, x.told(0, 2));
+        for (int k = 0; k < 9 && kept > 0; k++) {
+            int i = random.nextInt(kept);
+            same("number", x.out(0, i), x.out(1, i), r, a, i);
+        }
         same("depth", x.told(0, 3) <= x.place(r, 4) ? 1 : 0, 1, r, a, 0);
     }
 
@@ -190,6 +197,8 @@ public final class AgainstModelTest {
     private void fault(int what) { same("fault", x.fault(what), model.fault(what), what, 0, 0); }
     private void place(int r, int what) { same("place", x.place(r, what), model.place(r, what), r, what, 0); }
     private void leads(int from, int to) { same("leads", x.leads(from, to), model.leads(from, to), from, to, 0); }
+    private void image(int b, int i) { same("image", x.image(b, i), model.image(b, i), b, i, 0); }
+    private void out(int which, int i) { same("out", x.out(which, i), model.out(which, i), which, i, 0); }
     private int run(int r, int a, int n) { return same("run", x.run(r, a, n), model.run(r, a, n), r, a, n); }
     private int flat(int r, int a, int n) { return same("flat", x.flat(r, a, n), model.flat(r, a, n), r, a, n); }
 

@@ -27,7 +27,7 @@ public final class LinkingTest {
     }
 
     private static void promise7Link() {
-        BankLinker x = new BankLinker();
+        Counted x = new Counted();
         Due.due("link() of nothing", x.link(), 1);
         Due.due("count(3) of nothing", x.count(3), 0);
         Due.due("image of nothing", x.image(-1, 0), NONE);
@@ -44,7 +44,7 @@ public final class LinkingTest {
     }
 
     private static void promise8StrayJump() {
-        BankLinker x = Samples.single(0, 0);
+        Counted x = Samples.single(0, 0);
         x.routine(0, 0);
         Samples.ops(x, 1, Samples.TELL, 0, Samples.IF, 3, Samples.GOTO, 3);
         Samples.dueFault("jumps to the last BACK", x, 0, NONE, NONE);
@@ -63,7 +63,7 @@ public final class LinkingTest {
     }
 
     private static void promise8LoopOfCalls() {
-        BankLinker x = Samples.single(0, 0);
+        Counted x = Samples.single(0, 0);
         for (int r = 1; r < 4; r++) x.routine(0, 0);
         x.op(0, Samples.CALL, 2);
         x.op(2, Samples.CALL, 3);
@@ -75,7 +75,7 @@ public final class LinkingTest {
     }
 
     private static void promise8BigModule() {
-        BankLinker x = new BankLinker();
+        Counted x = new Counted();
         x.module(0);
         x.module(1);
         x.module(1);
@@ -90,7 +90,7 @@ public final class LinkingTest {
     }
 
     private static void promise8NoRoom() {
-        BankLinker x = new BankLinker();
+        Counted x = new Counted();
         for (int m = 0; m < 4; m++) x.module(1);
         x.limit(Samples.SIZE, 8);
         x.limit(Samples.BANKS, 2);
@@ -105,7 +105,7 @@ public final class LinkingTest {
     }
 
     private static void promise8SmallCommon() {
-        BankLinker x = Samples.chain();
+        Counted x = Samples.chain();
         x.limit(Samples.COMMON, 50);
         Samples.dueFault("50 bytes", x, 0, NONE, NONE);
         x.limit(Samples.COMMON, 49);
@@ -122,7 +122,7 @@ public final class LinkingTest {
     }
 
     private static void promise8FewCells() {
-        BankLinker x = Samples.chain();
+        Counted x = Samples.chain();
         x.limit(Samples.CELLS, 6);
         Samples.dueFault("6 cells", x, 0, NONE, NONE);
         x.limit(Samples.CELLS, 5);
@@ -137,7 +137,7 @@ public final class LinkingTest {
     }
 
     private static void promise8LowStack() {
-        BankLinker x = Samples.chain();
+        Counted x = Samples.chain();
         x.limit(Samples.STACK, 10);
         Samples.dueFault("10 on the stack", x, 0, NONE, NONE);
         x.limit(Samples.STACK, 9);
@@ -147,7 +147,7 @@ public final class LinkingTest {
     }
 
     private static void promise8OrderOfFaults() {
-        BankLinker x = Samples.chain();
+        Counted x = Samples.chain();
         x.limit(Samples.STACK, 1);
         Samples.dueFault("stack", x, 7, 0, NONE);
         x.limit(Samples.CELLS, 0);
@@ -165,7 +165,7 @@ public final class LinkingTest {
     }
 
     private static void promise9Place() {
-        BankLinker x = Samples.chain();
+        Counted x = Samples.chain();
         Due.due("place(5, 0) without an image", x.place(5, 0), BAD);
         Due.due("place(0, 6) without an image", x.place(0, 6), BAD);
         Due.due("place(0, 0) without an image", x.place(0, 0), STATE);
@@ -193,7 +193,7 @@ public final class LinkingTest {
     }
 
     private static void promise9FirstBankWithRoom() {
-        BankLinker x = new BankLinker();
+        Counted x = new Counted();
         int[] sizes = {5, 6, 3, 2, 1};
         for (int m = 0; m < sizes.length; m++) {
             x.module(1);
@@ -212,7 +212,7 @@ public final class LinkingTest {
     }
 
     private static void promise9GreatestOfCallers() {
-        BankLinker x = new BankLinker();
+        Counted x = new Counted();
         x.module(0);
         x.module(1);
         x.module(1);
@@ -240,7 +240,7 @@ public final class LinkingTest {
     /** Chains of 30 routines, up and down their numbers: BASE and DEPTH come through all of them. */
     private static void promise9LongChains() {
         for (int down = 0; down < 2; down++) {
-            BankLinker x = new BankLinker();
+            Counted x = new Counted();
             x.module(0);
             x.limit(Samples.COMMON, 250);
             x.limit(Samples.STACK, 60);
@@ -261,7 +261,7 @@ public final class LinkingTest {
 
     /** What the image before had told is not left in the next one. */
     private static void promise9LinkedAgain() {
-        BankLinker x = Samples.chain();
+        Counted x = Samples.chain();
         Due.due("link()", x.link(), 1);
         x.drop(3);
         x.drop(3);
@@ -284,14 +284,13 @@ public final class LinkingTest {
         Samples.dueBytes("again", x, 1);
     }
 
-    /** 8 banks and COMMON, each with 250 bytes: 3 routines of 81, 81 and 88 bytes. */
-    private static BankLinker greatest() {
-        BankLinker x = new BankLinker();
-        x.limit(Samples.BANKS, 8);
+    /** COMMON and a bank with 250 bytes each: 3 routines of 81, 81 and 88 bytes. */
+    private static Counted greatest() {
+        Counted x = new Counted();
         x.limit(Samples.SIZE, 250);
         x.limit(Samples.COMMON, 250);
-        for (int m = 0; m < 9; m++) {
-            x.module(m == 0 ? 0 : 1);
+        for (int m = 0; m < 2; m++) {
+            x.module(m);
             for (int k = 0; k < 3; k++) {
                 int r = x.routine(m, 0);
                 for (int i = 0; i < 40; i++) {
@@ -304,25 +303,24 @@ public final class LinkingTest {
     }
 
     private static void promise10GreatestImage() {
-        BankLinker x = greatest();
+        Counted x = greatest();
         Due.due("link()", x.link(), 1);
-        for (int b = -1; b < 8; b++) {
+        for (int b = -1; b < 1; b++) {
             Due.due("byte 0", x.image(b, 0), 0);
             Due.due("byte 1", x.image(b, 1), b + 1);
             Due.due("byte 249", x.image(b, 249), 8);
             Due.due("byte 250", x.image(b, 250), NONE);
         }
-        Due.due("image(8, 0)", x.image(8, 0), BAD);
         Due.due("count(3)", x.count(3), 250);
-        Due.due("count(5)", x.count(5), 8);
+        Due.due("count(5)", x.count(5), 1);
         x.routine(0, 0);
         Samples.dueFault("251 bytes of COMMON", x, 5, NONE, NONE);
-        x.routine(8, 0);
-        Samples.dueFault("251 bytes of a bank", x, 3, 8, NONE);
+        x.routine(1, 0);
+        Samples.dueFault("251 bytes of a bank", x, 3, 1, NONE);
     }
 
     private static void promise10Image() {
-        BankLinker x = Samples.chain();
+        Counted x = Samples.chain();
         Due.due("image(4, 0) without an image", x.image(4, 0), BAD);
         Due.due("image(0, 0) without an image", x.image(0, 0), STATE);
         Due.due("link()", x.link(), 1);
@@ -355,7 +353,7 @@ public final class LinkingTest {
     }
 
     private static void promise10Jumps() {
-        BankLinker x = Samples.single(0, 1);
+        Counted x = Samples.single(0, 1);
         x.routine(0, 0);
         Samples.ops(x, 0, Samples.GOTO, 40);
         for (int i = 1; i < 39; i++) x.op(0, Samples.CALL, 1);
@@ -374,7 +372,7 @@ public final class LinkingTest {
     }
 
     private static void promise11Count() {
-        BankLinker x = Samples.chain();
+        Counted x = Samples.chain();
         int[] due = {3, 5, 17, 50, 3, 2, 6, 3};
         for (int what = 0; what < 8; what++) {
             Due.due("count(" + what + ")", x.count(what), what < 3 ? due[what] : STATE);
@@ -399,7 +397,7 @@ public final class LinkingTest {
 
     /** Counts of one routine alone, and of a far call that is its first op. */
     private static void promise11OnlyRoutine() {
-        BankLinker x = Samples.single(1, 0);
+        Counted x = Samples.single(1, 0);
         Due.due("link()", x.link(), 1);
         int[] due = {1, 1, 0, 0, 0, 1, 0, 0};
         for (int what = 0; what < 8; what++) Due.due("alone: count(" + what + ")", x.count(what), due[what]);
@@ -415,7 +413,7 @@ public final class LinkingTest {
     }
 
     private static void promise12Leads() {
-        BankLinker x = Samples.chain();
+        Counted x = Samples.chain();
         int[] order = {1, 0, 2, 3, 4};
         for (int i = 0; i < 5; i++) {
             for (int k = 0; k < 5; k++) {

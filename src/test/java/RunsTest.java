@@ -19,7 +19,7 @@ public final class RunsTest {
     }
 
     private static void promise13Run() {
-        BankLinker x = Samples.chain();
+        Counted x = Samples.chain();
         x.link();
         Due.due("run(1, 2, 3000)", x.run(1, 2, 3000), 1);
         Samples.dueTold("chain", x, 0, 78, 0, 6, 10, 12);
@@ -32,7 +32,7 @@ public final class RunsTest {
     }
 
     private static void promise13Spent() {
-        BankLinker x = Samples.chain();
+        Counted x = Samples.chain();
         x.link();
         Due.due("run(1, 2, 77)", x.run(1, 2, 77), SPENT);
         Samples.dueTold("one too few", x, 0, 77, 0, 6, 10, 12);
@@ -43,7 +43,7 @@ public final class RunsTest {
     }
 
     private static void promise13Refusals() {
-        BankLinker x = Samples.chain();
+        Counted x = Samples.chain();
         Due.due("no image", x.run(0, 0, 1), STATE);
         Due.due("BAD is ahead of STATE", x.run(5, 0, 1), BAD);
         Due.due("BAD is ahead of STATE", x.run(0, 256, 1), BAD);
@@ -69,7 +69,7 @@ public final class RunsTest {
 
     /** A run may begin in any bank, and a near call from there stays in it. */
     private static void promise13EachRoutine() {
-        BankLinker x = Samples.chain();
+        Counted x = Samples.chain();
         x.link();
         Due.due("run(0, 7, 99)", x.run(0, 7, 99), 1);
         Samples.dueOut("from bank 0", x, 0, 8, 8, 7);
@@ -86,7 +86,7 @@ public final class RunsTest {
 
     /** Locals are 0 as their routine begins, also if others have used their cells. */
     private static void promise13LocalsBegin() {
-        BankLinker x = Samples.single(0, 1);
+        Counted x = Samples.single(0, 1);
         x.routine(0, 1);
         x.routine(0, 2);
         Samples.ops(x, 0, Samples.CALL, 1, Samples.CALL, 2);
@@ -103,7 +103,7 @@ public final class RunsTest {
 
     /** 20 far calls within one another, with 60 on the stack, and 64 cells, each with its number. */
     private static void promise13GreatestRun() {
-        BankLinker x = new BankLinker();
+        Counted x = new Counted();
         x.module(1);
         x.module(1);
         x.limit(Samples.STACK, 60);
@@ -134,7 +134,7 @@ public final class RunsTest {
     }
 
     private static void promise14Flat() {
-        BankLinker x = Samples.chain();
+        Counted x = Samples.chain();
         Due.due("flat(1, 2, 3000)", x.flat(1, 2, 3000), 1);
         Samples.dueTold("chain", x, 1, 43, 0, 6, 4, 0);
         Samples.dueOut("chain", x, 1, 3, 3, 2, 2, 2, 1);
@@ -146,7 +146,7 @@ public final class RunsTest {
     }
 
     private static void promise14Astray() {
-        BankLinker x = Samples.single(0, 0);
+        Counted x = Samples.single(0, 0);
         Samples.ops(x, 0, Samples.IF, 4, Samples.TELL, 0, Samples.GOTO, 5);
         Due.due("IF that leads astray", x.flat(0, 0, 9), 0);
         Samples.dueTold("IF that leads astray", x, 1, 1, 0, 0, 0, 0);
@@ -170,7 +170,7 @@ public final class RunsTest {
     }
 
     private static void promise14LocalsOfItsOwn() {
-        BankLinker x = Samples.single(0, 2);
+        Counted x = Samples.single(0, 2);
         Samples.ops(x, 0, Samples.STORE, 1, Samples.LOAD, 0, Samples.TELL, 0, Samples.LOAD, 1,
                 Samples.IF, 8, Samples.ADD, 255, Samples.STORE, 0, Samples.CALL, 0, Samples.LOAD, 1, Samples.TELL, 0);
         Due.due("a routine within itself", x.flat(0, 2, 99), 1);
@@ -178,7 +178,7 @@ public final class RunsTest {
     }
 
     private static void promise14Refusals() {
-        BankLinker x = Samples.chain();
+        Counted x = Samples.chain();
         x.flat(1, 2, 3000);
         Due.due("routine 5", x.flat(5, 0, 1), BAD);
         Due.due("routine -1", x.flat(-1, 0, 1), BAD);
@@ -195,7 +195,7 @@ public final class RunsTest {
     }
 
     private static void promise15Out() {
-        BankLinker x = Samples.single(1, 0);
+        Counted x = Samples.single(1, 0);
         Samples.ops(x, 0, Samples.TELL, 0, Samples.ADD, 1, Samples.GOTO, 0);
         x.link();
         for (int which = 0; which < 2; which++) {
@@ -220,7 +220,7 @@ public final class RunsTest {
     }
 
     private static void promise16Told() {
-        BankLinker x = Samples.chain();
+        Counted x = Samples.chain();
         x.link();
         x.run(1, 2, 3000);
         x.flat(1, 1, 3000);

@@ -1,23 +1,18 @@
 /** Programs that several tests use; what is due of them was worked out by hand from the document. */
-final class Samples {
-    static final int SET = 0, ADD = 1, TELL = 2, LOAD = 3, STORE = 4, CALL = 5, IF = 6, GOTO = 7, BACK = 8;
-    static final int BANKS = 0, SIZE = 1, COMMON = 2, STACK = 3, CELLS = 4;
-    static final int NONE = -1, BAD = -2, STATE = -3, FULL = -4, SPENT = -5;
-    static final int[] WILD = {Integer.MIN_VALUE, -1000, -2, Integer.MAX_VALUE, 100000};
-
+final class Samples implements Codes {
     private Samples() { }
 
     /** One module of a kind and one routine with some locals and no ops. */
-    static BankLinker single(int kind, int locals) {
-        BankLinker x = new BankLinker();
+    static Counted single(int kind, int locals) {
+        Counted x = new Counted();
         Due.due("module", x.module(kind), 0);
         Due.due("routine", x.routine(0, locals), 0);
         return x;
     }
 
     /** A chain of calls through COMMON and two banks; routine 1 is the first of it. */
-    static BankLinker chain() {
-        BankLinker x = new BankLinker();
+    static Counted chain() {
+        Counted x = new Counted();
         x.module(1);
         x.module(0);
         x.module(1);
@@ -35,14 +30,37 @@ final class Samples {
         return x;
     }
 
-    static void ops(BankLinker x, int routine, int... codesAndValues) {
+    static void ops(Counted x, int routine, int... codesAndValues) {
         for (int i = 0; i < codesAndValues.length; i += 2) {
             int now = x.op(routine, codesAndValues[i], codesAndValues[i + 1]);
             if (now <= 0) Due.due("op of routine " + routine + ", " + i / 2, now, 1);
         }
     }
 
-    static void dueFault(String name, BankLinker x, int number, int at, int op) {
+    /** Ops of 2 bytes and at most one of 1, until a routine has so many bytes with its last BACK. */
+    static void fillTo(Counted x, int routine, int now, int bytes) {
+        int left = bytes - now;
+        for (; left >= 2; left -= 2) ops(x, routine, SET, 0);
+        if (left == 1) ops(x, routine, TELL, 0);
+    }
+
+    /** A module of a kind with so many bytes (up to 243), in routines without locals: the module's number. */
+    static int moduleOf(Counted x, int kind, int bytes) {
+        int module = x.module(kind);
+        for (int left = bytes; left > 0; left -= 81) fillTo(x, x.routine(module, 0), 1, Math.min(left, 81));
+        return module;
+    }
+
+    /** That nothing is to be had of an image. */
+    static void dueNoImage(String name, Counted x) {
+        for (int what = 3; what < 8; what++) Due.due(name + ": count(" + what + ")", x.count(what), STATE);
+        for (int what = 0; what < 6; what++) Due.due(name + ": place(0, " + what + ")", x.place(0, what), STATE);
+        Due.due(name + ": image(-1, 0)", x.image(NONE, 0), STATE);
+        Due.due(name + ": image(0, 0)", x.image(0, 0), STATE);
+        Due.due(name + ": run(0, 0, 1)", x.run(0, 0, 1), STATE);
+    }
+
+    static void dueFault(String name, Counted x, int number, int at, int op) {
         Due.due(name + ": link()", x.link(), number == 0 ? 1 : 0);
         Due.due(name + ": fault(0)", x.fault(0), number);
         Due.due(name + ": fault(1)", x.fault(1), at);
@@ -50,20 +68,20 @@ final class Samples {
         Due.due(name + ": count(3)", x.count(3) == STATE ? 1 : 0, number == 0 ? 0 : 1);
     }
 
-    static void dueBytes(String name, BankLinker x, int bank, int... bytes) {
+    static void dueBytes(String name, Counted x, int bank, int... bytes) {
         for (int i = 0; i < bytes.length; i++) {
             Due.due(name + ": image(" + bank + ", " + i + ")", x.image(bank, i), bytes[i]);
         }
         Due.due(name + ": image(" + bank + ", " + bytes.length + ")", x.image(bank, bytes.length), NONE);
     }
 
-    static void dueTold(String name, BankLinker x, int which, int... told) {
+    static void dueTold(String name, Counted x, int which, int... told) {
         for (int what = 0; what < told.length; what++) {
             Due.due(name + ": told(" + which + ", " + what + ")", x.told(which, what), told[what]);
         }
     }
 
-    static void dueOut(String name, BankLinker x, int which, int... numbers) {
+    static void dueOut(String name, Counted x, int which, int... numbers) {
         for (int i = 0; i < numbers.length; i++) {
             Due.due(name + ": out(" + which + ", " + i + ")", x.out(which, i), numbers[i]);
         }

@@ -14,7 +14,7 @@ public final class WhatIsToldTest {
     }
 
     private static void promise1NewObject() {
-        BankLinker x = new BankLinker();
+        Counted x = new Counted();
         for (int what = 0; what < 3; what++) Due.due("new: count(" + what + ")", x.count(what), 0);
         for (int what = 3; what < 8; what++) Due.due("new: count(" + what + ")", x.count(what), Samples.STATE);
         Due.due("new: fault(0)", x.fault(0), 0);
@@ -31,7 +31,7 @@ public final class WhatIsToldTest {
     }
 
     private static void promise2Module() {
-        BankLinker x = new BankLinker();
+        Counted x = new Counted();
         for (int m = 0; m < 12; m++) {
             Due.due("module(2)", x.module(2), Samples.BAD);
             Due.due("module(-1)", x.module(-1), Samples.BAD);
@@ -46,7 +46,7 @@ public final class WhatIsToldTest {
     }
 
     private static void promise3Routine() {
-        BankLinker x = new BankLinker();
+        Counted x = new Counted();
         Due.due("no module", x.routine(0, 0), Samples.BAD);
         x.module(0);
         x.module(1);
@@ -70,7 +70,7 @@ public final class WhatIsToldTest {
     }
 
     private static void promise4OpNumbers() {
-        BankLinker x = Samples.single(0, 3);
+        Counted x = Samples.single(0, 3);
         x.routine(0, 0);
         int[] least = {0, 0, -9, 0, 0, 0, 0, 0, Integer.MIN_VALUE};
         int[] most = {255, 255, 999, 2, 2, 1, 40, 40, Integer.MAX_VALUE};
@@ -98,7 +98,7 @@ public final class WhatIsToldTest {
     }
 
     private static void promise4OpFull() {
-        BankLinker x = Samples.single(1, 1);
+        Counted x = Samples.single(1, 1);
         for (int i = 1; i <= 40; i++) Due.due("op " + i, x.op(0, Samples.TELL, 0), i);
         Due.due("op 41", x.op(0, Samples.TELL, 0), Samples.FULL);
         Due.due("BAD is ahead of FULL", x.op(0, Samples.SET, 256), Samples.BAD);
@@ -109,7 +109,7 @@ public final class WhatIsToldTest {
     }
 
     private static void promise5Drop() {
-        BankLinker x = Samples.single(0, 0);
+        Counted x = Samples.single(0, 0);
         x.routine(0, 0);
         Samples.ops(x, 0, Samples.SET, 4, Samples.TELL, 0, Samples.SET, 5);
         Samples.ops(x, 1, Samples.TELL, 0);
@@ -129,7 +129,7 @@ public final class WhatIsToldTest {
     }
 
     private static void promise6Limit() {
-        BankLinker x = new BankLinker();
+        Counted x = new Counted();
         int[] first = {4, 100, 200, 20, 32};
         int[] least = {1, 8, 8, 1, 0};
         int[] most = {8, 250, 250, 60, 64};
@@ -147,7 +147,7 @@ public final class WhatIsToldTest {
     }
 
     private static void changesTakeTheImage() {
-        BankLinker x = Samples.chain();
+        Counted x = Samples.chain();
         for (int change = 0; change < 5; change++) {
             Due.due("link()", x.link(), 1);
             Due.due("there is an image", x.count(4), 3);
@@ -166,7 +166,7 @@ public final class WhatIsToldTest {
     }
 
     private static void refusalsLeaveTheImage() {
-        BankLinker x = Samples.chain();
+        Counted x = Samples.chain();
         while (x.op(4, Samples.BACK, 0) > 0) x.count(0);
         while (x.module(0) >= 0) x.count(0);
         while (x.routine(3, 0) >= 0) x.count(0);
