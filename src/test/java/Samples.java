@@ -44,7 +44,7 @@ final class Samples implements Codes {
         if (left == 1) ops(x, routine, TELL, 0);
     }
 
-    /** A module of a kind with so many bytes (up to 243), in routines without locals: the module's number. */
+    /** A module of a kind with so many bytes, in routines without locals of up to 81: the module's number. */
     static int moduleOf(Counted x, int kind, int bytes) {
         int module = x.module(kind);
         for (int left = bytes; left > 0; left -= 81) fillTo(x, x.routine(module, 0), 1, Math.min(left, 81));
