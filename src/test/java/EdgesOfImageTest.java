@@ -7,6 +7,7 @@ public final class EdgesOfImageTest implements Codes {
         bytesOfTheGreatest();
         routinesByNumbers();
         firstBankWithRoom();
+        firstNotTheBest();
         oneByteTooMany();
         nearAndFar();
         thunksByNumbers();
@@ -18,6 +19,7 @@ public final class EdgesOfImageTest implements Codes {
         baseThroughOneWithoutLocals();
         depthOfOneThatCallsNothing();
         greatestOfTheCalled();
+        chainsOfAll();
         callsBehindABack();
         imageRefused();
         imageOfSoManyBanks();
@@ -144,6 +146,18 @@ public final class EdgesOfImageTest implements Codes {
         duePlaces(x, new int[] {0, 1, 0, 1, 2, 3}, new int[] {256, 256, 262, 262, 256, 256});
         Due.due("count(5)", x.count(5), 4);
         Due.due("count(3)", x.count(3), 0);
+    }
+
+    private static void firstNotTheBest() {
+        Due.sentence("the first BANK in which it has room (not the one with the least room, the most, or the latest)");
+        int[][] bytes = {{5, 8, 2}, {8, 5, 2}, {6, 9, 4}};
+        int[] behind = {261, 264, 262};
+        for (int k = 0; k < 3; k++) {
+            Counted x = new Counted();
+            x.limit(SIZE, 10);
+            for (int m = 0; m < 3; m++) Samples.moduleOf(x, KIND_BANK, bytes[k][m]);
+            duePlaces(x, new int[] {0, 1, 0}, new int[] {256, 256, behind[k]});
+        }
     }
 
     private static void oneByteTooMany() {
@@ -368,6 +382,25 @@ public final class EdgesOfImageTest implements Codes {
         }
     }
 
+    private static void chainsOfAll() {
+        Due.sentence("BASE and DEPTH (through all 30 ROUTINES, up and down their numbers)");
+        for (int down = 0; down < 2; down++) {
+            Counted x = Samples.single(0, 2);
+            x.limit(STACK, 60);
+            x.limit(CELLS, 64);
+            x.limit(COMMON, 250);
+            for (int r = 1; r < 30; r++) x.routine(0, 2);
+            for (int r = 1; r < 30; r++) x.op(down == 1 ? r : r - 1, CALL, down == 1 ? r - 1 : r);
+            Due.due("link()", x.link(), 1);
+            for (int k = 0; k < 30; k++) {
+                int r = down == 1 ? 29 - k : k;
+                Due.due("BASE of " + r, x.place(r, 3), 2 * k);
+                Due.due("DEPTH of " + r, x.place(r, 4), 29 - k);
+            }
+            Due.due("count(6)", x.count(6), 60);
+        }
+    }
+
     private static void callsBehindABack() {
         Due.sentence("called somewhere");
         Counted x = Samples.single(0, 7);
@@ -536,6 +569,15 @@ public final class EdgesOfImageTest implements Codes {
         x.limit(CELLS, 64);
         x.link();
         Due.due("needed, not the LIMIT", x.count(6), 11);
+        x.drop(1);
+        x.link();
+        Due.due("not called any more", x.count(6), 9);
+        x = Samples.single(0, 4);
+        x.link();
+        Due.due("of routine 0", x.count(6), 4);
+        x.routine(0, 3);
+        x.link();
+        Due.due("of routine 0, not of the last", x.count(6), 4);
     }
 
     private static void countOfFarCalls() {

@@ -18,6 +18,7 @@ public final class EdgesOfRunsTest implements Codes {
         eachCodeIsAStep();
         localsAreZeroEachTime();
         localsStayOverACall();
+        allCells();
         cellsAreZeroAtFirst();
         bankOfTheRoutine();
         bankOfCommon();
@@ -311,6 +312,30 @@ public final class EdgesOfRunsTest implements Codes {
             Due.due("BASE of 1", x.place(1, 3), 4);
             Due.due("run", go(x, which, 0, 40, 999), 1);
             Samples.dueOut("they stay", x, which, 77, 0, 40, 41);
+        }
+    }
+
+    /** A chain of ROUTINES with 9 LOCALS, 7 times, and one with the last CELL: each holds its numbers. */
+    private static void allCells() {
+        Due.sentence("LOAD, STORE of a CELL (0 to 63)");
+        for (int which = 0; which < 2; which++) {
+            Counted x = new Counted();
+            x.module(0);
+            x.module(1);
+            x.limit(CELLS, 64);
+            x.limit(COMMON, 250);
+            for (int r = 0; r < 8; r++) x.routine(r == 7 ? 1 : 0, r == 7 ? 1 : 9);
+            for (int r = 0; r < 8; r++) {
+                int last = r == 7 ? 0 : 8;
+                Samples.ops(x, r, ADD, 1, STORE, 0, ADD, 1, STORE, last);
+                if (r < 7) x.op(r, CALL, r + 1);
+                Samples.ops(x, r, LOAD, last, TELL, 0, LOAD, 0, TELL, 0);
+            }
+            Due.due("link()", x.link(), 1);
+            Due.due("count(6)", x.count(6), 64);
+            Due.due("run", go(x, which, 0, 100, 999), 1);
+            Samples.dueOut("each holds its numbers", x, which,
+                    116, 116, 114, 113, 112, 111, 110, 109, 108, 107, 106, 105, 104, 103, 102, 101);
         }
     }
 

@@ -9,6 +9,7 @@ public final class EdgesOfTellingTest implements Codes {
 
     public static void main(String[] args) {
         newObject();
+        objectsApart();
         nothingToName();
         kindOfModule();
         twelveModules();
@@ -47,6 +48,31 @@ public final class EdgesOfTellingTest implements Codes {
         for (int b = NONE; b < 4; b++) Due.due("image(" + b + ", 0)", x.image(b, 0), STATE);
         Due.due("module(0)", new Counted().module(0), 0);
         Due.due("module(1)", new Counted().module(1), 0);
+    }
+
+    private static void objectsApart() {
+        Due.sentence("A new object (beside one that is in use)");
+        Counted used = Samples.chain();
+        used.link();
+        used.run(1, 2, 3000);
+        used.flat(1, 2, 3000);
+        Counted x = new Counted();
+        for (int what = 0; what < 3; what++) Due.due("count(" + what + ")", x.count(what), 0);
+        Due.due("count(3)", x.count(3), STATE);
+        for (int which = 0; which < 2; which++) {
+            Samples.dueTold("new", x, which, 0, 0, 0, 0, 0);
+            Samples.dueOut("new", x, which);
+        }
+        Due.due("SIZE", x.limit(SIZE, 9), 100);
+        x.module(0);
+        x.routine(0, 0);
+        x.op(0, GOTO, 9);
+        Due.due("link()", x.link(), 0);
+        Due.due("the other one's FAULT", used.fault(0), 0);
+        Due.due("the other one's IMAGE", used.count(3), 50);
+        Samples.dueBytes("the other one's bytes", used, 1, 1, 1, 5, 17, 0, 2, 8);
+        Samples.dueTold("the other one's run", used, 0, 78, 0, 6, 10, 12);
+        Due.due("the other one's SIZE", used.limit(SIZE, 8), 16);
     }
 
     private static void nothingToName() {
