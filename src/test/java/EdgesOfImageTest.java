@@ -266,6 +266,7 @@ public final class EdgesOfImageTest implements Codes {
         Due.due("link()", x.link(), 1);
         Due.due("BANK of 8", x.place(8, 0), 7);
         Due.due("BANKS with bytes", x.count(5), 8);
+        Due.due("THUNKS", x.count(4), 3);
         Samples.dueBytes("COMMON", x, NONE, 5, 18, 0, 5, 10, 0, 5, 26, 0, 8,
                 9, 10, 0, 5, 0, 1, 11, 8, 9, 10, 7, 5, 0, 1, 11, 8, 9, 10, 7, 5, 6, 1, 11, 8);
         Samples.dueBytes("BANK 7", x, 7, 0, 0, 0, 0, 2, 8, 2, 8);

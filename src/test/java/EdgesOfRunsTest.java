@@ -442,6 +442,7 @@ public final class EdgesOfRunsTest implements Codes {
         for (int r = 0; r < 21; r++) x.routine(r % 2, 0);
         for (int r = 0; r < 20; r++) Samples.ops(x, r, CALL, r + 1, TELL, 0);
         Due.due("link()", x.link(), 1);
+        Due.due("THUNKS", x.count(4), 20);
         for (int r = 20; r >= 0; r -= 5) {
             Due.due("run(" + r + ", 1, 3000)", x.run(r, 1, 3000), 1);
             int far = 20 - r;
