@@ -64,6 +64,19 @@ public final class AgainstModelTest {
                 default: lookAtRuns(); break;
             }
         }
+        while (x.callsLeft() > 0) lastCall();
+    }
+
+    /** One call at a time, so that the 512th is asked, too. */
+    private void lastCall() {
+        switch (random.nextInt(6)) {
+            case 0: link(); break;
+            case 1: place(someRoutine(), random.nextInt(6)); break;
+            case 2: image(random.nextInt(3) - 1, random.nextInt(60)); break;
+            case 3: randomOp(); break;
+            case 4: run(someRoutine(), random.nextInt(256), 1 + random.nextInt(300)); break;
+            default: flat(someRoutine(), random.nextInt(256), 1 + random.nextInt(300)); break;
+        }
     }
 
     private int someRoutine() {

@@ -42,22 +42,30 @@ public final class FaceTest {
                 Due.due("private " + m.getName() + " bears a public name", names.contains(m.getName()) ? 1 : 0, 0);
             } else {
                 Due.due(m + " is of the face", wanted.remove(m.getName() + " " + m.getParameterCount()) ? 1 : 0, 1);
-                Due.due(m + " is public", Modifier.isPublic(m.getModifiers()) ? 1 : 0, 1);
+                Due.due(m + " is public and no more", m.getModifiers(), Modifier.PUBLIC);
+                Due.due(m + " answers an int", m.getReturnType() == int.class ? 1 : 0, 1);
+                for (Class<?> p : m.getParameterTypes()) Due.due(m + " takes ints", p == int.class ? 1 : 0, 1);
             }
         }
         Due.due("missing: " + wanted, wanted.size(), 0);
         int shown = 0;
         for (Field f : BankLinker.class.getDeclaredFields()) {
-            if (!Modifier.isPrivate(f.getModifiers())) shown++;
+            if (!Modifier.isPrivate(f.getModifiers())) {
+                shown++;
+                Due.due(f + " is a public constant", f.getModifiers(), Modifier.PUBLIC | Modifier.STATIC | Modifier.FINAL);
+                Due.due(f + " is an int", f.getType() == int.class ? 1 : 0, 1);
+            }
             if (Modifier.isStatic(f.getModifiers())) Due.due(f + " is final", Modifier.isFinal(f.getModifiers()) ? 1 : 0, 1);
         }
         Due.due("constants that are not private", shown, 5);
         Constructor<?>[] constructors = BankLinker.class.getDeclaredConstructors();
         Due.due("constructors", constructors.length, 1);
         Due.due("its parameters", constructors[0].getParameterCount(), 0);
-        Due.due("the class is final", Modifier.isFinal(BankLinker.class.getModifiers()) ? 1 : 0, 1);
+        Due.due("the constructor is public", constructors[0].getModifiers(), Modifier.PUBLIC);
+        Due.due("the class is public and final", BankLinker.class.getModifiers(), Modifier.PUBLIC | Modifier.FINAL);
         for (Class<?> c : BankLinker.class.getDeclaredClasses()) {
             Due.due(c + " is static", Modifier.isStatic(c.getModifiers()) ? 1 : 0, 1);
+            Due.due(c + " is not shown", c.getModifiers() & (Modifier.PUBLIC | Modifier.PROTECTED), 0);
             Due.due(c + " has at most twenty fields", fieldsOf(c) <= 20 ? 1 : 0, 1);
         }
         Due.due("at most twelve classes", BankLinker.class.getDeclaredClasses().length <= 11 ? 1 : 0, 1);
